@@ -19,6 +19,8 @@ public final class FullDrawerTest {
         }
         nothing("nearest", () -> d.nearest(FAR, FAR, 4096));
         everyNumber(d);
+        nothing("nearest of equally near ones", () -> d.nearest(0, 0, 4096));
+        everyNumber(d);
         nothing("nearest 1", () -> d.nearest(-FAR, FAR, 1));
         nothing("pairs", () -> d.pairs());
         everyNumber(d);
