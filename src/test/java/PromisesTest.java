@@ -58,12 +58,12 @@ public final class PromisesTest {
         Check.same("2: put(0)", d.put(0, -FAR, -FAR, FAR, FAR), false);
         Check.same("2: put(4095)", d.put(4095, FAR, -FAR, FAR, -FAR), false);
         Check.same("2: put(9)", d.put(9, 1, 2, 3, 4), false);
-        isBox("2: box 0", d, 0, -FAR, -FAR, FAR, FAR);
-        isBox("2: box 4095", d, 4095, FAR, -FAR, FAR, -FAR);
-        isBox("2: box 9", d, 9, 1, 2, 3, 4);
+        Check.box("2: box 0", d, 0, -FAR, -FAR, FAR, FAR);
+        Check.box("2: box 4095", d, 4095, FAR, -FAR, FAR, -FAR);
+        Check.box("2: box 9", d, 9, 1, 2, 3, 4);
         Check.same("2: count(0)", d.count(0), 3);
         Check.same("2: put(9) again", d.put(9, -4, -3, -2, -1), true);
-        isBox("2: box 9 again", d, 9, -4, -3, -2, -1);
+        Check.box("2: box 9 again", d, 9, -4, -3, -2, -1);
         Check.same("2: count(0) again", d.count(0), 3);
         d.take(9);
         Check.same("2: put(9) after take", d.put(9, 0, 0, 0, 0), false);
@@ -87,7 +87,7 @@ public final class PromisesTest {
         }
         Check.throwing("2: x turned", NO_ARGUMENT, () -> d.put(5, 1, 0, 0, 9));
         Check.throwing("2: y turned", NO_ARGUMENT, () -> d.put(6, 0, 1, 9, 0));
-        isBox("2: box 5 stays", d, 5, 1, 2, 3, 4);
+        Check.box("2: box 5 stays", d, 5, 1, 2, 3, 4);
         Check.same("2: count(0) stays", d.count(0), 1);
     }
 
@@ -106,7 +106,7 @@ public final class PromisesTest {
         Check.same("3: take(0)", d.take(0), true);
         Check.same("3: take(4095)", d.take(4095), true);
         Check.same("3: count(0)", d.count(0), 1);
-        isBox("3: box 3", d, 3, 3, 0, 3, 0);
+        Check.box("3: box 3", d, 3, 3, 0, 3, 0);
         for (int no : NO_NUMBERS) {
             Check.throwing("3: take(" + no + ")", NO_INDEX, () -> d.take(no));
         }
@@ -125,7 +125,7 @@ public final class PromisesTest {
         Check.throwing("4: bounds(0)", NO_STATE, () -> d.bounds(0));
         Check.same("4: clear again", d.clear(), 0);
         d.put(2, 5, 6, 7, 8);
-        isBox("4: box 2 anew", d, 2, 5, 6, 7, 8);
+        Check.box("4: box 2 anew", d, 2, 5, 6, 7, 8);
         Check.same("4: pairs", d.pairs(), 0);
     }
 
@@ -233,13 +233,13 @@ public final class PromisesTest {
         Check.same("6: far", d.nearest(-FAR, -FAR, 4), 4);
         Check.result("6: far", d, 3, 4, 2, 1);
         BoxDrawer line = new BoxDrawer();
-        int[] want = new int[300];
-        for (int i = 0; i < 300; i++) {
-            int number = i * 7 % 300;
+        int[] want = new int[200];
+        for (int i = 0; i < 200; i++) {
+            int number = i * 7 % 200;
             line.put(number, 2 * number, 0, 2 * number, 0);
-            want[i] = 299 - i;
+            want[i] = 199 - i;
         }
-        Check.same("6: a line", line.nearest(FAR, 0, 300), 300);
+        Check.same("6: a line", line.nearest(FAR, 0, 200), 200);
         Check.result("6: a line", line, want);
         Check.same("6: a line's end", line.nearest(FAR, 0, 17), 17);
         Check.result("6: a line's end", line, Arrays.copyOf(want, 17));
@@ -354,17 +354,17 @@ public final class PromisesTest {
             Check.throwing("9: bounds(" + what + ") of none", NO_STATE, () -> d.bounds(asked));
         }
         d.put(3, 10, 20, 30, 40);
-        areBounds("9: one", d, 10, 20, 30, 40);
+        Check.bounds("9: one", d, 10, 20, 30, 40);
         d.put(1, 12, -5, 13, -4);
         d.put(2, -7, 21, -6, 22);
         d.put(9, 14, 90, 15, 91);
         d.put(8, 80, 23, 81, 24);
-        areBounds("9: five", d, -7, -5, 81, 91);
+        Check.bounds("9: five", d, -7, -5, 81, 91);
         d.take(2);
         d.take(9);
-        areBounds("9: three", d, 10, -5, 81, 40);
+        Check.bounds("9: three", d, 10, -5, 81, 40);
         d.put(8, 11, 21, 12, 22);
-        areBounds("9: one put anew", d, 10, -5, 30, 40);
+        Check.bounds("9: one put anew", d, 10, -5, 30, 40);
         for (int no : noWhats) {
             Check.throwing("9: bounds(" + no + ")", NO_INDEX, () -> d.bounds(no));
         }
@@ -424,8 +424,8 @@ public final class PromisesTest {
         BoxDrawer d = new BoxDrawer();
         d.put(0, -1, -2, 3, 4);
         d.put(4095, -FAR, 0, 0, FAR);
-        isBox("11: box 0", d, 0, -1, -2, 3, 4);
-        isBox("11: box 4095", d, 4095, -FAR, 0, 0, FAR);
+        Check.box("11: box 0", d, 0, -1, -2, 3, 4);
+        Check.box("11: box 4095", d, 4095, -FAR, 0, 0, FAR);
         for (int no : new int[] {-1, 4, Integer.MIN_VALUE, Integer.MAX_VALUE}) {
             Check.throwing("11: box(0, " + no + ")", NO_INDEX, () -> d.box(0, no));
             Check.throwing("11: box(1, " + no + ")", NO_INDEX, () -> d.box(1, no));
@@ -460,17 +460,5 @@ public final class PromisesTest {
         Check.same("12: count(1) after take", d.count(1), 3);
         d.clear();
         Check.same("12: count(0) after clear", d.count(0), 0);
-    }
-
-    private static void isBox(String call, BoxDrawer d, int box, int... want) {
-        for (int what = 0; what < 4; what++) {
-            Check.same(call + ", bound " + what, d.box(box, what), want[what]);
-        }
-    }
-
-    private static void areBounds(String call, BoxDrawer d, int... want) {
-        for (int what = 0; what < 4; what++) {
-            Check.same(call + ", bounds(" + what + ")", d.bounds(what), want[what]);
-        }
     }
 }
