@@ -437,7 +437,10 @@ public final class BoundaryPromisesTest {
         Check.result("7: of two apart", d);
     }
 
-    /** "the lower number first in each, in the order of these, of equal ones in that of the others" */
+    /**
+     * "the lower number first in each, in the order of these, of equal ones in that of the
+     * others"
+     */
     private static void promise7OrderOfPairs() {
         BoxDrawer d = new BoxDrawer();
         d.put(9, 0, 0, 9, 9);
@@ -574,7 +577,7 @@ public final class BoundaryPromisesTest {
         Check.bounds("9: two", d, 8, -FAR, 9, FAR);
     }
 
-    /** "The bounds of all boxes together": when the outermost is there no more, or lies elsewhere. */
+    /** "The bounds of all boxes together": when the outermost is taken, or lies elsewhere. */
     private static void promise9Shrinking() {
         BoxDrawer d = new BoxDrawer();
         d.put(0, -50, -60, -40, -50);
